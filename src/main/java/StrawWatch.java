@@ -71,6 +71,7 @@ public final class StrawWatch {
     private static final int RUNS_LEAST = -9;
     private static final int RUNS_MOST = 19;
     private static final int RUNS_KINDS = 29;
+    private static final int STRIKES_MOST = 9;
     private static final int STRIKES_KINDS = 10;
 
     private final byte[] tape;
@@ -495,7 +496,7 @@ public final class StrawWatch {
     }
 
     private static boolean isMeasure(int what) {
-        return what >= 0 && L_RUNS + what <= L_MOODS;
+        return what >= 0 && what <= L_MOODS - L_RUNS;
     }
 
     private int endOfTrial(int what) {
@@ -615,7 +616,7 @@ public final class StrawWatch {
             1 << V_WATCH | 1 << V_LEAGUE | 1 << V_COOK | 1 << V_SAIL | 1 << V_SKILL
         };
         private static final int[] LEAST = {0, 0, 0, RUNS_LEAST, 0, 0, -9};
-        private static final int[] MOST = {9, 9, 3, RUNS_MOST, 9, 99, 9};
+        private static final int[] MOST = {9, 9, 3, RUNS_MOST, STRIKES_MOST, 99, 9};
 
         final int[] vars = new int[VARS];
         private final int[] code = new int[CODE_ROOM];
@@ -733,26 +734,21 @@ public final class StrawWatch {
                     at = stack[top] < stack[top + 1] ? at : argument;
                 } else {
                     top--;
-                    if (op == OP_DIVIDE && stack[top] == 0) {
+                    int other = stack[top];
+                    if (op == OP_ADD) {
+                        stack[top - 1] += other;
+                    } else if (op == OP_TAKE) {
+                        stack[top - 1] -= other;
+                    } else if (op == OP_TIMES) {
+                        stack[top - 1] *= other;
+                    } else if (other == 0) {
                         return 0;
+                    } else {
+                        stack[top - 1] /= other;
                     }
-                    stack[top - 1] = joined(op, stack[top - 1], stack[top]);
                 }
             }
             return 0;
-        }
-
-        private static int joined(int op, int one, int other) {
-            switch (op) {
-                case OP_ADD:
-                    return one + other;
-                case OP_TAKE:
-                    return one - other;
-                case OP_TIMES:
-                    return one * other;
-                default:
-                    return other == 0 ? 0 : one / other;
-            }
         }
     }
 
@@ -877,13 +873,13 @@ public final class StrawWatch {
         private static final String WORDS = "man     wind    danger  orders  runs    strikes eats    moods   ship    goal    broom   seed    if      then    else    watch   league  skill   helm    look    cook    sail    blows   near    ";
         private static final String SIGNS = ";=+-*/<()";
 
-        private final int[] kinds = new int[TOKEN_ROOM + 1];
-        private final int[] places = new int[TOKEN_ROOM + 1];
-        private final long[] values = new long[TOKEN_ROOM + 1];
+        final int[] kinds = new int[TOKEN_ROOM + 1];
+        final int[] places = new int[TOKEN_ROOM + 1];
+        final long[] values = new long[TOKEN_ROOM + 1];
+        int size;
         private final byte[] tape;
         private int length;
         private int at;
-        private int size;
 
         Tokens(byte[] tape) {
             this.tape = tape;
@@ -898,18 +894,6 @@ public final class StrawWatch {
             for (int i = 0; i <= TOKEN_ROOM && more; i++) {
                 more = scan();
             }
-        }
-
-        int kindOf(int i) {
-            return i >= 0 && i < size ? kinds[i] : END;
-        }
-
-        long valueOf(int i) {
-            return i >= 0 && i < size ? values[i] : 0;
-        }
-
-        int placeOf(int i) {
-            return i >= 0 && i < size ? places[i] : length;
         }
 
         private boolean scan() {
@@ -1016,7 +1000,11 @@ public final class StrawWatch {
 
         private final Tokens tokens;
         private final Text into;
+        // The token that comes next: how many are ahead of it, and what it is.
         private int at;
+        private int kind;
+        private long value;
+        private int start;
         private int fault;
         private int place;
         private int laterFault;
@@ -1025,18 +1013,20 @@ public final class StrawWatch {
         Reader(Text into, byte[] tape) {
             this.into = into;
             tokens = new Tokens(tape);
+            place = NONE;
         }
 
         /** The FAULT's number, or 0; what the text tells is in the Text then. */
         int readTape(int length) {
             into.clear();
             tokens.split(length);
-            at = 0;
             fault = 0;
             place = NONE;
             laterFault = 0;
             laterPlace = NONE;
-            for (int i = 0; i <= TOKEN_ROOM && fault == 0 && tokens.kindOf(at) != Tokens.END; i++) {
+            at = -1;
+            accept();
+            for (int i = 0; i <= TOKEN_ROOM && fault == 0 && kind != Tokens.END; i++) {
                 readTell();
             }
             if (fault == 0) {
@@ -1051,27 +1041,25 @@ public final class StrawWatch {
         }
 
         private void readTell() {
-            int word = isKind(Tokens.WORD) ? (int) tokens.valueOf(at) : NONE;
+            int word = kind == Tokens.WORD ? (int) value : NONE;
             if (word == Tokens.W_MAN) {
                 readMan();
             } else if (word >= Tokens.W_WIND && word <= Tokens.W_MOODS) {
                 readLaw(word - Tokens.W_WIND);
-            } else if (word == Tokens.W_SHIP) {
-                accept();
-                into.hull = number(1, 99);
-                into.food = number(0, 999);
-                into.mood = number(0, MOOD_TOP);
-                sign(';');
-            } else if (word >= Tokens.W_GOAL && word <= Tokens.W_SEED) {
-                readOneNumber(word);
+            } else if (word >= Tokens.W_SHIP && word <= Tokens.W_SEED) {
+                readNumbers(word);
             } else {
                 refuse(SYNTAX);
             }
         }
 
-        private void readOneNumber(int word) {
+        private void readNumbers(int word) {
             accept();
-            if (word == Tokens.W_GOAL) {
+            if (word == Tokens.W_SHIP) {
+                into.hull = number(1, 99);
+                into.food = number(0, 999);
+                into.mood = number(0, MOOD_TOP);
+            } else if (word == Tokens.W_GOAL) {
                 into.goal = number(1, 999);
             } else if (word == Tokens.W_BROOM) {
                 into.broom = number(0, 9999);
@@ -1087,16 +1075,15 @@ public final class StrawWatch {
                 return;
             }
             accept();
-            if (!isKind(Tokens.NAME)) {
+            if (kind != Tokens.NAME) {
                 refuse(SYNTAX);
                 return;
             }
-            long name = tokens.valueOf(at);
-            if (into.knows(name)) {
+            if (into.knows(value)) {
                 noteLater(TWICE);
             }
+            into.addMan(value);
             accept();
-            into.addMan(name);
             for (int what = 0; what <= POSTS; what++) {
                 into.setLastMan(what, number(0, 9));
             }
@@ -1104,63 +1091,63 @@ public final class StrawWatch {
         }
 
         private void readLaw(int law) {
+            Laws laws = into.laws;
+            int first = laws.codes();
             accept();
             sign('=');
-            int start = into.laws.codes();
-            for (int ifs = 0; ifs <= IF_ROOM && isWord(Tokens.W_IF); ifs++) {
-                if (ifs == IF_ROOM) {
-                    refuse(ROOM);
-                    return;
-                }
-                readIf(law);
-            }
-            readSum(law, 0);
-            into.laws.emit(Laws.OP_END, 0);
-            sign(';');
-            into.laws.setStart(law, start);
-        }
-
-        private void readIf(int law) {
-            accept();
-            readSum(law, 0);
-            sign('<');
-            readSum(law, 0);
-            int hole = into.laws.codes();
-            into.laws.emit(Laws.OP_UNLESS_LESS, 0);
-            word(Tokens.W_THEN);
-            readSum(law, 0);
-            into.laws.emit(Laws.OP_END, 0);
-            into.laws.aimHere(hole);
-            word(Tokens.W_ELSE);
-        }
-
-        private void readSum(int law, int depth) {
-            readPart(law, depth);
-            for (int i = 0; i < TOKEN_ROOM && (isSign('+') || isSign('-')); i++) {
-                int op = isSign('+') ? Laws.OP_ADD : Laws.OP_TAKE;
+            for (int ifs = 0; ifs < IF_ROOM && isWord(Tokens.W_IF); ifs++) {
                 accept();
-                readPart(law, depth);
-                into.laws.emit(op, 0);
+                readSum(law, 0);
+                sign('<');
+                readSum(law, 0);
+                int hole = laws.codes();
+                laws.emit(Laws.OP_UNLESS_LESS, 0);
+                word(Tokens.W_THEN);
+                readSum(law, 0);
+                laws.emit(Laws.OP_END, 0);
+                laws.aimHere(hole);
+                word(Tokens.W_ELSE);
             }
+            if (isWord(Tokens.W_IF)) {
+                refuse(ROOM);
+            }
+            readSum(law, 0);
+            laws.emit(Laws.OP_END, 0);
+            laws.setStart(law, first);
+            sign(';');
         }
 
-        private void readPart(int law, int depth) {
+        /** An E: a + or - waits till the PART behind it is whole. */
+        private void readSum(int law, int depth) {
+            Laws laws = into.laws;
+            int waiting = NONE;
             readUnit(law, depth);
-            for (int i = 0; i < TOKEN_ROOM && (isSign('*') || isSign('/')); i++) {
-                int op = isSign('*') ? Laws.OP_TIMES : Laws.OP_DIVIDE;
+            int op = operator();
+            for (int i = 0; i < TOKEN_ROOM && op != NONE; i++) {
+                boolean joinsParts = op == Laws.OP_ADD || op == Laws.OP_TAKE;
+                if (joinsParts && waiting != NONE) {
+                    laws.emit(waiting, 0);
+                }
                 accept();
                 readUnit(law, depth);
-                into.laws.emit(op, 0);
+                if (joinsParts) {
+                    waiting = op;
+                } else {
+                    laws.emit(op, 0);
+                }
+                op = operator();
+            }
+            if (waiting != NONE) {
+                laws.emit(waiting, 0);
             }
         }
 
         private void readUnit(int law, int depth) {
-            int value = (int) tokens.valueOf(at);
-            if (isKind(Tokens.INT)) {
-                into.laws.emit(Laws.OP_NUMBER, value);
+            if (kind == Tokens.INT) {
+                into.laws.emit(Laws.OP_NUMBER, (int) value);
                 accept();
-            } else if (isKind(Tokens.WORD) && value >= Tokens.W_WATCH && value <= Tokens.W_NEAR) {
-                into.laws.emitVar(law, value - Tokens.W_WATCH);
+            } else if (kind == Tokens.WORD && value >= Tokens.W_WATCH && value <= Tokens.W_NEAR) {
+                into.laws.emitVar(law, (int) value - Tokens.W_WATCH);
                 accept();
             } else if (!isSign('(')) {
                 refuse(SYNTAX);
@@ -1173,17 +1160,25 @@ public final class StrawWatch {
             }
         }
 
-        /** Nothing is of any kind behind a FAULT, so that reading ends there. */
-        private boolean isKind(int kind) {
-            return fault == 0 && tokens.kindOf(at) == kind;
+        private int operator() {
+            if (isSign('+')) {
+                return Laws.OP_ADD;
+            }
+            if (isSign('-')) {
+                return Laws.OP_TAKE;
+            }
+            if (isSign('*')) {
+                return Laws.OP_TIMES;
+            }
+            return isSign('/') ? Laws.OP_DIVIDE : NONE;
         }
 
         private boolean isSign(char wanted) {
-            return isKind(Tokens.SIGN) && tokens.valueOf(at) == wanted;
+            return kind == Tokens.SIGN && value == wanted;
         }
 
         private boolean isWord(int wanted) {
-            return isKind(Tokens.WORD) && tokens.valueOf(at) == wanted;
+            return kind == Tokens.WORD && value == wanted;
         }
 
         private void sign(char wanted) {
@@ -1203,38 +1198,45 @@ public final class StrawWatch {
         }
 
         private int number(int least, int most) {
-            if (!isKind(Tokens.INT)) {
+            if (kind != Tokens.INT) {
                 refuse(SYNTAX);
                 return 0;
             }
-            int value = (int) tokens.valueOf(at);
-            if (value < least || value > most) {
+            int number = (int) value;
+            if (number < least || number > most) {
                 noteLater(WRONG);
             }
             accept();
-            return value;
+            return number;
         }
 
         /** A token is counted only when it fits, since SYNTAX is ahead of ROOM at one place. */
         private void accept() {
             if (at >= TOKEN_ROOM) {
                 refuse(ROOM);
-            } else if (fault == 0) {
-                at++;
+                return;
+            }
+            at++;
+            if (at >= 0 && at < tokens.size) {
+                kind = tokens.kinds[at];
+                value = tokens.values[at];
+                start = tokens.places[at];
             }
         }
 
+        /** Behind a FAULT the token is of no kind that fits, so that reading ends there. */
         private void refuse(int number) {
             if (fault == 0) {
                 fault = number;
-                place = tokens.placeOf(at);
+                place = start;
             }
+            kind = Tokens.BAD;
         }
 
         private void noteLater(int number) {
             if (laterFault == 0) {
                 laterFault = number;
-                laterPlace = tokens.placeOf(at);
+                laterPlace = start;
             }
         }
     }
@@ -1384,7 +1386,7 @@ public final class StrawWatch {
         /** A WATCH by those who are at the POSTS: SAIL. */
         int keepWatch() {
             Laws laws = text.laws;
-            noteWeather();
+            laws.noteWeather(cell[C_WATCH], cell[C_LEAGUE]);
             text.notePosts(cell, C_POST);
             int sail = sailNow();
             laws.vars[V_SAIL] = sail;
@@ -1530,9 +1532,11 @@ public final class StrawWatch {
 
         void tallyStrikes(int sail) {
             Arrays.fill(tally, 0);
-            for (int d = 0; d < size; d++) {
+            // Draws in a row differ in the cook alone, whom STRIKES do not see.
+            int alike = Math.max(1, text.men - POSTS + 1);
+            for (int d = 0; d < size; d += alike) {
                 noteDraw(d, sail);
-                tally[within(text.laws.held(L_STRIKES), 0, STRIKES_KINDS - 1)]++;
+                tally[within(text.laws.held(L_STRIKES), 0, STRIKES_MOST)] += alike;
             }
         }
 
@@ -1552,7 +1556,8 @@ public final class StrawWatch {
         /** SAFEST for n WATCHES: 4 times the first SAIL and the second (0 for one watch). */
         int safestOf(int n, int[] cell) {
             Arrays.fill(ways, 0);
-            if (cell[C_OVER] != 0) {
+            // No strikes are to come, or none that could wreck her.
+            if (cell[C_OVER] != 0 || cell[C_HULL] > n * STRIKES_MOST) {
                 Arrays.fill(ways, cell[C_HULL] == 0 ? 0 : n == 1 ? size : size * size);
             } else if (n == 1) {
                 weighOne(cell);
@@ -1585,7 +1590,7 @@ public final class StrawWatch {
             laws.noteWeather(cell[C_WATCH], cell[C_LEAGUE]);
             for (int d = 0; d < size; d++) {
                 noteDraw(d, sail);
-                int strikes = within(laws.held(L_STRIKES), 0, STRIKES_KINDS - 1);
+                int strikes = within(laws.held(L_STRIKES), 0, STRIKES_MOST);
                 if (strikes >= cell[C_HULL]) {
                     continue;
                 }
