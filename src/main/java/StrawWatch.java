@@ -1272,6 +1272,8 @@ public final class StrawWatch {
             }
             seed = text.seed;
             sailForAll = NONE;
+            // She may set out without FOOD, or at GOAL: then no watch begins.
+            findEnd();
         }
 
         void follow(Ship other) {

@@ -22,7 +22,7 @@ final class Oracle {
     }
 
     static final class Voyage implements Cloneable {
-        int league, hull, food, mood, mutiny, straws, over, watch, mutinies, married = -2;
+        int league, hull, food, mood, mutiny, straws, watch, mutinies, married = -2;
         int[] at = {-2, -2, -2, -2};
         int[] sleeve, captain;
         boolean[] hides;
@@ -366,14 +366,15 @@ final class Oracle {
             v.mutiny = 4;
             v.mutinies++;
         }
-        v.over = v.league == text.goal ? 1 : v.hull == 0 ? 2 : v.food == 0 ? 3 : 0;
-        if (v.over == 1) v.married = v.at[0];
+        if (over(v) == 1) v.married = v.at[0];
         return sail;
     }
 
+    int over(Voyage v) { return v.league == text.goal ? 1 : v.hull == 0 ? 2 : v.food == 0 ? 3 : 0; }
+
     int run(Voyage v, int n, int seed, int fixed) {
         int gone = 0;
-        for (; gone < n && v.over == 0; gone++) {
+        for (; gone < n && over(v) == 0; gone++) {
             draw(v, seed);
             go(v, fixed);
         }
@@ -413,7 +414,7 @@ final class Oracle {
             case 3 -> v.mood;
             case 4 -> v.mutiny;
             case 5 -> v.straws;
-            case 6 -> v.over;
+            case 6 -> over(v);
             case 7 -> v.watch;
             case 8 -> weather(v.watch, v.league).get("blows");
             case 9 -> weather(v.watch, v.league).get("near");
@@ -438,7 +439,7 @@ final class Oracle {
             if (who[i] != -1 && !known(who[i])) return -1;
             for (int j = 0; j < i; j++) if (who[i] == who[j] && who[i] != -1) return -1;
         }
-        if (now.over != 0) return -2;
+        if (over(now) != 0) return -2;
         save();
         for (int i = 0; i < 4; i++) now.at[i] = who[i] == -1 ? -2 : who[i];
         return go(now, -1);
@@ -446,7 +447,7 @@ final class Oracle {
 
     int watches(int n) {
         if (n < 0 || n > 60) return -1;
-        if (now.over != 0) return -2;
+        if (over(now) != 0) return -2;
         if (n > 0) save();
         return run(now, n, text.seed, -1);
     }
@@ -538,8 +539,8 @@ final class Oracle {
                     Voyage v = now.copy();
                     v.mutiny = 0;
                     v.at = d.clone();
-                    if (v.over == 0) go(v, a);
-                    if (n == 1 || v.over != 0) {
+                    if (over(v) == 0) go(v, a);
+                    if (n == 1 || over(v) != 0) {
                         ways += v.hull > 0 ? (n == 2 ? all.size() : 1) : 0;
                         continue;
                     }
@@ -605,7 +606,7 @@ final class Oracle {
         if (!known(man) || post < 0 || post > 3 || n < 0 || n > 200) return -1;
         Voyage v = now.copy();
         int times = 0;
-        for (int i = 0; i < n && v.over == 0; i++) {
+        for (int i = 0; i < n && over(v) == 0; i++) {
             run(v, 1, text.seed, -1);
             if (v.at[post] == man) times++;
         }
@@ -620,7 +621,7 @@ final class Oracle {
         if (what < 0 || what > 1) return -1;
         Voyage v = now.copy();
         int gone = run(v, 200, text.seed, sail);
-        return v.over == 0 ? -2 : what == 0 ? gone : v.over;
+        return over(v) == 0 ? -2 : what == 0 ? gone : over(v);
     }
 
     int spared(int man, int n) {
@@ -649,7 +650,7 @@ final class Oracle {
         for (int i = 0; i < s; i++) {
             Voyage v = now.copy();
             run(v, 200, text.seed + i, -1);
-            if (v.over == how || v.married == man) many++;
+            if (over(v) == how || v.married == man) many++;
         }
         return many;
     }
@@ -698,7 +699,7 @@ final class Oracle {
             for (int[] one : logged.subList(0, k)) {
                 Voyage v = fresh(l);
                 run(v, one[0], text.seed, -1);
-                all &= v.over == 0 && v.watch == one[0] && Math.abs(v.league - one[1]) <= 2;
+                all &= over(v) == 0 && v.watch == one[0] && Math.abs(v.league - one[1]) <= 2;
                 if (!all) break;
             }
             if (all) may.add(l);

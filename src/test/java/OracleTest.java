@@ -80,7 +80,7 @@ public final class OracleTest {
             int times = one(0, 5) < 4 ? 1 : one(0, 2);
             for (int i = 0; i < times; i++) s.append(law).append(" = ").append(law(law)).append(";");
         }
-        if (one(0, 2) > 0) s.append("ship ").append(one(1, 25)).append(' ').append(one(0, 120)).append(' ').append(one(0, 30)).append(";");
+        if (one(0, 2) > 0) s.append("ship ").append(one(1, 25)).append(' ').append(one(0, 19) == 0 ? 0 : one(0, 120)).append(' ').append(one(0, 30)).append(";");
         if (one(0, 2) > 0) s.append("goal ").append(one(0, 60) == 0 ? 0 : one(0, 1) == 0 ? one(1, 40) : one(1, 999)).append(";");
         if (one(0, 2) > 0) s.append("broom ").append(one(0, 40)).append(";");
         if (one(0, 2) > 0) s.append("seed ").append(one(0, 9999)).append(";");

@@ -21,6 +21,7 @@ public final class PromiseTest {
         p8();
         mutiny();
         ends();
+        overAtOnce();
         p9();
         p10();
         p11();
@@ -465,10 +466,6 @@ public final class PromiseTest {
         x.watches(9);
         due("STARVED", x.ship(6), 3);
         due("two watches", x.ship(7), 2);
-        x = with("ship 5 0 5; eats = 0;");
-        due("no food: not over as the text is read", x.ship(6), 0);
-        due("watches(9)", x.watches(9), 1);
-        due("STARVED behind the first watch", x.ship(6), 3);
         x = with("man a 1 1 1 1 0; goal 19; runs = 30;");
         x.watches(1);
         due("who is captain then is MARRIED", x.count(10), 0);
@@ -479,6 +476,59 @@ public final class PromiseTest {
         x = with("man a 1 1 1 1 0; strikes = 9; ship 9 9 9;");
         x.watches(1);
         due("nobody is MARRIED by a wreck", x.count(10), -2);
+    }
+
+    /** What a voyage that is over means in each promise, where a text tells FOOD 0. */
+    private static void overAtOnce() {
+        promise = 8;
+        StrawWatch x = with(FIVE + "ship 5 0 0; eats = 0; strikes = 9; runs = 9; goal 9;");
+        due("FOOD 0: STARVED", x.ship(6), 3);
+        due("watch 0", x.ship(7), 0);
+        due("no mutiny", x.ship(4), 0);
+        due("nobody at a POST", x.post(0), -2);
+        due("nobody is MARRIED", x.count(10), -2);
+        promise = 10;
+        due("stand(0, 1, 2, 3)", x.stand(0, 1, 2, 3), -2);
+        promise = 11;
+        due("watches(1)", x.watches(1), -2);
+        due("watches(0)", x.watches(0), -2);
+        due("nothing happened", x.ship(0) + x.count(3), 0);
+        promise = 12;
+        yes("hide(0, true)", x.hide(0, true));
+        yes("undo()", x.undo());
+        due("STARVED still", x.ship(6), 3);
+        promise = 18;
+        due("safest(2, 1)", x.safest(2, 1), 0);
+        promise = 19;
+        fraction("safe(2): HULL stays as it is", x.safe(2, false), x.safe(2, true), 1, 1);
+        promise = 23;
+        due("then(7, 6)", x.then(7, 6), 3);
+        due("then(7, 7)", x.then(7, 7), 0);
+        promise = 24;
+        for (int man = 0; man < 5; man++) due("often", x.often(man, 0, 9), 0);
+        promise = 25;
+        due("ends(0)", x.ends(0), 0);
+        due("ends(1)", x.ends(1), 3);
+        promise = 26;
+        due("steady(2, 0)", x.steady(2, 0), 0);
+        due("steady(2, 1)", x.steady(2, 1), 3);
+        promise = 27;
+        due("spared(0, 9)", x.spared(0, 9), 0);
+        promise = 29;
+        due("year(1, 4)", x.year(1, 4), 0);
+        due("year(3, 4)", x.year(3, 4), 4);
+        promise = 30;
+        for (int man = 0; man < 5; man++) due("weds", x.weds(man, 4), 0);
+        promise = 38;
+        yes("hold(1)", x.hold(1));
+        yes("restore(1)", x.restore(1));
+        due("STARVED as it was held", x.ship(6), 3);
+        promise = 4;
+        feed(x, "ship 5 1 0;");
+        x.read();
+        due("one FOOD: not over", x.ship(6), 0);
+        due("one watch", x.watches(9), 1);
+        due("STARVED behind it", x.ship(6), 3);
     }
 
     private static void p9() {
@@ -1035,7 +1085,14 @@ public final class PromiseTest {
         due("nothing happened", x.ship(0), 6);
         x = with("goal 12;");
         x.log(0, 12);
-        due("began: watch 0 begins at GOAL too", x.began(1, -1), 3);
+        // 10 and 11: at GOAL the voyage is over, so that watch 0 does not begin.
+        due("began: watch 0 does not begin at GOAL", x.began(1, -1), 2);
+        due("began(1, 1)", x.began(1, 1), 11);
+        due("began(0, 12): nothing is LOGGED against GOAL", x.began(0, 12), 12);
+        x = with("ship 5 0 5; goal 12;");
+        x.log(0, 3);
+        due("began: no watch begins without FOOD", x.began(1, -1), 0);
+        due("began(0, -1) without FOOD", x.began(0, -1), 13);
         // By hand she may be elsewhere: it is by straws, all else as the text, nobody hiding.
         x = with(FIVE + "runs = if skill < 3 then 1 else 5; goal 90;");
         x.hide(2, true);
