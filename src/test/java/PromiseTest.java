@@ -1,13 +1,5 @@
-import java.util.Arrays;
-
 /** Each promise of the document: ordinary inputs, the edges it names, wrong inputs. Draws are worked out by hand. */
-public final class PromiseTest {
-    // With this crew and seed 7 the draws of watches 0 .. 4 are 2034, 2134, 4102, 0341, 4230 (POSTS 0 to 3).
-    private static final String FIVE =
-        "man a 1 2 3 4 1; man b 5 0 1 2 0; man c 3 3 3 3 2; man d 0 9 8 7 0; man e 2 4 6 8 9; seed 7;";
-    private static int wrong = 0;
-    private static int promise = 0;
-
+public final class PromiseTest extends Checks {
     public static void main(String[] args) {
         p1();
         p2p3();
@@ -40,52 +32,7 @@ public final class PromiseTest {
         p37p38();
         p39();
         extremes();
-        System.out.println(wrong == 0 ? "all promises hold" : wrong + " answers are not as due");
-        if (wrong != 0) System.exit(1);
-    }
-
-    private static void due(String call, long got, long want) {
-        if (got == want) return;
-        wrong++;
-        System.out.println("promise " + promise + ": " + call + " answered " + got + ", due is " + want);
-    }
-
-    private static void yes(String call, boolean got) { due(call, got ? 1 : 0, 1); }
-
-    private static void no(String call, boolean got) { due(call, got ? 1 : 0, 0); }
-
-    private static void feed(StrawWatch x, String text) {
-        byte[] bytes = new byte[(text.length() + 19) / 20 * 20];
-        Arrays.fill(bytes, (byte) ' ');
-        for (int i = 0; i < text.length(); i++) bytes[i] = (byte) text.charAt(i);
-        for (int i = 0; i < bytes.length; i += 20) {
-            int[] f = new int[5];
-            for (int j = 0; j < 20; j++) f[j / 4] = f[j / 4] << 8 | bytes[i + j] & 255;
-            x.feed(f[0], f[1], f[2], f[3], f[4]);
-        }
-        x.back(bytes.length - text.length());
-    }
-
-    private static StrawWatch with(String text) {
-        StrawWatch x = new StrawWatch();
-        feed(x, text);
-        due("read() of " + text, x.read(), 0);
-        due("place() of " + text, x.place(), -1);
-        return x;
-    }
-
-    private static void fault(String text, int number, int place) {
-        StrawWatch x = new StrawWatch();
-        feed(x, text);
-        due("read() of " + text, x.read(), number);
-        due("place() of " + text, x.place(), place);
-    }
-
-    private static void good(String text) { fault(text, 0, -1); }
-
-    private static void fraction(String call, int up, int down, int wantUp, int wantDown) {
-        due(call + " above", up, wantUp);
-        due(call + " below", down, wantDown);
+        finish("all promises hold");
     }
 
     private static String times(int n, String s) { return s.repeat(n); }
