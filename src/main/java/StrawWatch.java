@@ -511,11 +511,12 @@ public final class StrawWatch {
         return what == 0 ? gone : over;
     }
 
+    /** How often he was captain behind n WATCHES more, those up to now too. */
     private int timesCaptain(int man, int n, boolean hides) {
         trial.follow(now);
         trial.setHides(man, hides);
         trial.sailOn(n);
-        return trial.cell[C_CAPTAINED + man] - now.cell[C_CAPTAINED + man];
+        return trial.cell[C_CAPTAINED + man];
     }
 
     private int voyagesWith(int cell, int wanted, int seeds) {

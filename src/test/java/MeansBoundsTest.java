@@ -1,3 +1,5 @@
+import java.util.Arrays;
+
 /** Part III of the document and promises 13 to 30: each sentence that names a bound, on both sides of it. */
 public final class MeansBoundsTest extends Checks {
     private static final int[] FAR = {Integer.MIN_VALUE, -1000, 1000, Integer.MAX_VALUE};
@@ -13,6 +15,7 @@ public final class MeansBoundsTest extends Checks {
         meanIsOfTheLaw();
         mostLeastAndGreatest();
         noMutiny();
+        ofNowWhateverWasAsked();
         riskBounds();
         safestBounds();
         safestHullAboveZero();
@@ -150,6 +153,37 @@ public final class MeansBoundsTest extends Checks {
         fraction("risk(2, -1)", x.risk(2, -1, false), x.risk(2, -1, true), 0, 1);
         fraction("risk(1, -1)", x.risk(1, -1, false), x.risk(1, -1, true), 1, 1);
         due("orders(0)", x.orders(0), 3);
+    }
+
+    /** The LAWS are looked at as of now, whatever was asked for just ahead. */
+    private static void ofNowWhateverWasAsked() {
+        sentence(15, "Of the next WATCH by a DRAW");
+        String text = "man a 0 0 0 0 0; goal 99; ship 99 99 50; wind = watch; danger = league / 2; orders = watch + blows; runs = 2; strikes = near + blows; eats = watch; moods = league / 2;";
+        for (int gone = 0; gone < 4; gone++) {
+            StrawWatch x = with(text);
+            x.watches(gone);
+            for (int ask = 0; ask < 9; ask++) {
+                switch (ask) {
+                    case 0 -> x.then(9, 8);
+                    case 1 -> x.steady(3, 0);
+                    case 2 -> x.year(1, 2);
+                    case 3 -> x.began(0, 7);
+                    case 4 -> x.safe(2, true);
+                    case 5 -> x.spared(0, 9);
+                    case 6 -> x.often(0, 0, 5);
+                    case 7 -> x.ends(0);
+                    default -> x.then(0, 8);
+                }
+                int which = (ask + gone) % 7;
+                if (which == 0) due("orders(0)", x.orders(0), 2 * gone % 4);
+                else if (which == 1) fraction("risk", x.risk(2 * gone, 0, false), x.risk(2 * gone, 0, true), 1, 1);
+                else if (which == 2) fraction("risk", x.risk(2 * gone + 1, 0, false), x.risk(2 * gone + 1, 0, true), 0, 1);
+                else if (which == 3) due("mean(1, 0)", x.mean(1, 0, false), 2 * gone);
+                else if (which == 4) due("mean(2, 0)", x.mean(2, 0, false), gone);
+                else if (which == 5) due("most(3, 0)", x.most(3, 0, true), gone);
+                else due("ship(8)", x.ship(8), gone);
+            }
+        }
     }
 
     private static void riskBounds() {
@@ -366,6 +400,24 @@ public final class MeansBoundsTest extends Checks {
             StrawWatch x = with(crew(men, "5 5 5 5 0"));
             for (int post = 0; post < 4; post++) due(men + " alike: roster(" + post + ")", x.roster(post), post < men ? post : -2);
         }
+        // Each DRAW in its turn, from the first to the last, is the one with most SKILLS.
+        for (int men = 1; men <= 6; men++) {
+            int[] who = {0, 1, 2, 3};
+            for (int d = 0; d < (men < 4 ? 6 : 360); d++) {
+                StringBuilder text = new StringBuilder();
+                for (int man = 0; man < men; man++) {
+                    text.append("man ").append((char) ('a' + man));
+                    for (int post = 0; post < 4; post++) text.append(who[post] == man ? " 9" : " 1");
+                    text.append(" 0;");
+                }
+                if (men < 4 || d % 7 == 0 || d < 3) {
+                    StrawWatch x = with(text.toString());
+                    for (int post = 0; post < 4; post++) due(text + " roster(" + post + ")", x.roster(post), post < men ? who[post] : -2);
+                    due(text + " roster(-1)", x.roster(-1), 9 * Math.min(men, 4));
+                }
+                if (!nextDraw(who, men)) break;
+            }
+        }
         // b at POST 1 and c at POST 0, or a at POST 0 and c at POST 1, are alike: a at POST 0 is the first.
         StrawWatch x = with("man a 5 5 0 0 0;man b 0 5 0 0 0;man c 5 5 0 0 0;man d 0 0 0 0 0;");
         int[] who = {0, 1, 2, 3};
@@ -374,6 +426,18 @@ public final class MeansBoundsTest extends Checks {
         int[] turned = {3, 2, 1, 0};
         for (int post = 0; post < 4; post++) due("turned: roster(" + post + ")", x.roster(post), turned[post]);
         due("turned: roster(-1)", x.roster(-1), 20);
+    }
+
+    /** The next way in which so many MEN can be at POSTS, in order; false behind the last. */
+    private static boolean nextDraw(int[] who, int men) {
+        int posts = Math.min(men, 4);
+        do {
+            int post = posts - 1;
+            while (post >= 0 && who[post] == men - 1) who[post--] = 0;
+            if (post < 0) return false;
+            who[post]++;
+        } while (Arrays.stream(who, 0, posts).distinct().count() < posts);
+        return true;
     }
 
     private static void handyBounds() {

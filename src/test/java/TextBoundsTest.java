@@ -44,6 +44,7 @@ public final class TextBoundsTest extends Checks {
         placeOfTheLatestRead();
         emptyTextInPlace();
         newTextInPlace();
+        nothingOfTheOneAhead();
         finish("the bounds of texts hold");
     }
 
@@ -378,6 +379,16 @@ public final class TextBoundsTest extends Checks {
             fault(law + "=if 1 then 4 else 5;", 1, n + 6);
             fault(law + "=if 1<2 else 5;", 1, n + 8);
             fault(law + "=if 1<2 then 4;", 1, n + 14);
+            // A UNIT stands where 'then', 'else' or '<' is due.
+            fault(law + "=if 1<2 3 else 4;", 1, n + 8);
+            fault(law + "=if 1<2 (3) else 4;", 1, n + 8);
+            fault(law + "=if 1<2 watch else 4;", 1, n + 8);
+            fault(law + "=if 1<2 then 3 4;", 1, n + 15);
+            fault(law + "=if 1<2 then 3 (4);", 1, n + 15);
+            fault(law + "=if 1<2 then 3 then 4;", 1, n + 15);
+            fault(law + "=if 1<2 then 3 if 1<2 then 3 else 4;", 1, n + 15);
+            fault(law + "=if 1 2 then 3 else 4;", 1, n + 6);
+            fault(law + "=if 1=2 then 3 else 4;", 1, n + 5);
             fault(law + "=if 1<2 then if 1<2 then 3 else 4 else 5;", 1, n + 13);
             fault(law + "=1 if 1<2 then 3 else 4;", 1, n + 3);
             fault(law + "=a;", 1, n + 1);
@@ -768,5 +779,36 @@ public final class TextBoundsTest extends Checks {
         for (int slot = 0; slot < 3; slot++) no("restore(" + slot + ")", x.restore(slot));
         due("cheats(0, 1)", x.cheats(0, 1, true), -1);
         due("tell(4) is the first again", x.tell(4), 0);
+    }
+
+    /** Texts that tell something else in all that can be told, and then nothing: all is as if not told. */
+    private static void nothingOfTheOneAhead() {
+        sentence(4, "it is in place of the one ahead .. if not told");
+        String all = "man x 1 1 1 1 1;wind=5;danger=6;orders=3;runs=7;strikes=4;eats=8;moods=9;ship 50 500 60;goal 500;broom 77;seed 1;";
+        for (String ahead : new String[] {all, all + "x", all + "goal 0;", all + "man x 2 2 2 2 2;", all + "wind=((((((("}) {
+            StrawWatch x = new StrawWatch();
+            feed(x, ahead);
+            x.read();
+            feed(x, crew(6, "1 1 1 1 1"));
+            due("read() behind " + ahead, x.read(), 0);
+            due("MEN", x.count(0), 6);
+            due("GOAL", x.count(1), 60);
+            due("straws", x.ship(5), 999);
+            due("WIND", x.ship(8), 2);
+            due("DANGER", x.ship(9), 0);
+            x.watches(1);
+            int[] wants = {3, 20, 98, 50};
+            for (int what = 0; what < 4; what++) due("ship(" + what + ")", x.ship(what), wants[what]);
+            for (int w = 0; w < 6; w++) {
+                int[] who = draw(6, 0, w);
+                for (int post = 0; post < 4; post++) due("by SEED 0: watch " + w + ", post " + post, x.post(post), who[post]);
+                x.watches(1);
+            }
+            // A LAW told ahead and now again is the one told now.
+            feed(x, "wind=8;");
+            due("read()", x.read(), 0);
+            due("WIND", x.ship(8), 8);
+            due("MEN", x.count(0), 0);
+        }
     }
 }

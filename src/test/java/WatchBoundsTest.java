@@ -119,6 +119,10 @@ public final class WatchBoundsTest extends Checks {
         value("1 - 2 + 3", 2);
         value("2 + 3 * 4 - 6 / 2", 11);
         value("(2 + 3) * (4 - 6) / 2", -5);
+        sentence(8, "six ( within one another");
+        value("1 + 2 * (3 - 4 * (5 + 6 * (7 - 8 * (9 + 10 * (11 - 12 * (13 + 14 * 15))))))", 1 + 2 * (3 - 4 * (5 + 6 * (7 - 8 * (9 + 10 * (11 - 12 * 223))))));
+        value("((((((7 - 2) * 3 - 1) / 2 + 5) * 4 - 3) / 5 + 1) * 2)", 20);
+        value("2 - (2 - (2 - (2 - (2 - (2 - (1))))))", 1);
     }
 
     private static void dividedByZero() {
@@ -153,17 +157,18 @@ public final class WatchBoundsTest extends Checks {
     private static void varsOfEachLaw() {
         sentence(8, "a VAR not told for a LAW is 0 in it; watch and league for all");
         String[] vars = {"watch", "league", "skill", "helm", "look", "cook", "sail", "blows", "near"};
-        int[] is = {1, 2, 3, 4, 5, 6, 2, 7, 8};
+        int[] is = {1, 2, 3, 5, 7, 6, 2, 7, 9};
         String[] told = {"watch league", "watch league", "watch league skill blows near", "watch league sail blows near helm skill",
             "watch league sail blows near helm look skill", "watch league cook skill", "watch league cook sail skill"};
         String[] laws = {"wind", "danger", "orders", "runs", "strikes", "eats", "moods"};
-        String crew = "man a 3 0 0 0 0; man b 0 4 0 0 0; man c 0 0 5 0 0; man d 0 0 0 6 0; ship 50 50 50; goal 99; ";
+        // None of these has the rest 0 by 4, so that each is seen in ORDERS too.
+        String crew = "man a 3 0 0 0 0; man b 0 5 0 0 0; man c 0 0 7 0 0; man d 0 0 0 6 0; ship 50 50 50; goal 99; ";
         for (int law = 0; law < 7; law++) {
             for (int v = 0; v < 9; v++) {
                 int want = (" " + told[law] + " ").contains(" " + vars[v] + " ") ? is[v] : 0;
                 // The first watch brings her to LEAGUE 2; the LAW under test is in force from the second on.
-                String text = crew + "wind = 7; danger = 8; orders = 2; runs = 2; strikes = 0; eats = 0; moods = 0; ";
-                String base = new String[] {"7", "8", "2", "2", "0", "0", "0"}[law];
+                String text = crew + "wind = 7; danger = 9; orders = 2; runs = 2; strikes = 0; eats = 0; moods = 0; ";
+                String base = new String[] {"7", "9", "2", "2", "0", "0", "0"}[law];
                 StrawWatch x = with(text + laws[law] + " = if watch < 1 then " + base + " else " + vars[v] + ";");
                 x.stand(0, 1, 2, 3);
                 int[] ahead = {x.ship(0), x.ship(1), x.ship(2), x.ship(3)};
