@@ -553,6 +553,10 @@ public final class TextBoundsTest extends Checks {
         good("wind=" + "1+".repeat(198) + "1;");
         fault("wind=" + "1+".repeat(199) + "1;", 2, 5 + 398);
         fault("wind=" + "1+".repeat(198) + "1", 1, 5 + 397);
+        // All 400 of them count in what the LAW says, whichever LAW it is.
+        due("WIND of 400 TOKENS", with("wind=203" + "-1".repeat(198) + ";").ship(8), 5);
+        due("MOODS of 400 TOKENS", with("moods=203" + "-1".repeat(198) + ";").mean(3, 0, false), 5);
+        due("RUNS of 400 TOKENS", with("runs=((((((1+" + "1*".repeat(189) + "6))))))+1+1;").mean(0, 0, false), 9);
         // 399 TOKENS and one of the last LAW's: the text ends, or goes on with the 401st
         fault("wind=" + "1+".repeat(199), 1, 5 + 398);
         good("wind=" + "(1)+".repeat(99) + "11;");
