@@ -1214,7 +1214,10 @@ public final class StrawWatch {
         /** A token is counted only when it fits, since SYNTAX is ahead of ROOM at one place. */
         private void accept() {
             if (at >= TOKEN_ROOM) {
-                refuse(ROOM);
+                // A token that fits has no FAULT ahead of it, so this is the first.
+                fault = ROOM;
+                place = start;
+                kind = Tokens.BAD;
                 return;
             }
             at++;
