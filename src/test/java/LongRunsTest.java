@@ -47,7 +47,8 @@ public final class LongRunsTest {
             case 0 -> faultyText();
             case 1 -> doAndUndo();
             case 2 -> holdAndGoOn();
-            case 3 -> {
+            case 3 -> noteMuch();
+            case 4 -> {
                 if (twins.one(0, 2) == 0) goodText();
             }
             default -> twins.call();
@@ -93,6 +94,15 @@ public final class LongRunsTest {
         }
         if (ahead < 40 && done > 40 && twins.o.past.size() == 40) deepUndos++;
         for (int i = 0; i < undone; i++) twins.undo();
+    }
+
+    private void noteMuch() {
+        int many = twins.one(1, 24);
+        if (2 * many > left()) return;
+        for (int i = 0; i < many; i++) {
+            twins.log();
+            twins.look();
+        }
     }
 
     private void holdAndGoOn() {

@@ -49,7 +49,8 @@ final class Twins {
             for (int j = 0; j < 20; j++) f[j / 4] = f[j / 4] << 8 | bytes[i + j] & 255;
             due("feed", x.feed(f[0], f[1], f[2], f[3], f[4]), o.feed(f[0], f[1], f[2], f[3], f[4]));
         }
-        if (one(0, 4) > 0) due("back", x.back(bytes.length - text.length()), o.back(bytes.length - text.length()));
+        int back = some(bytes.length - text.length(), bytes.length - text.length());
+        if (one(0, 4) > 0) due("back(" + back + ")", x.back(back), o.back(back));
         due("read() of " + text, x.read(), o.read());
         due("place() of " + text, x.place(), o.place);
     }
@@ -75,19 +76,25 @@ final class Twins {
         }
     }
 
-    /** Most often what stands in the document, now and then what does not. */
-    private int man() { return one(-1, 6); }
+    /** From least to most, which is what the document names and a little more; now and then any number at all. */
+    private int some(int least, int most) {
+        int usual = one(least, most);
+        if (one(0, 79) > 0) return usual;
+        return random.nextBoolean() ? random.nextInt() : random.nextBoolean() ? Integer.MIN_VALUE : Integer.MAX_VALUE;
+    }
 
-    private int post() { return one(-2, 4); }
+    private int man() { return some(-1, 6); }
+
+    private int post() { return some(-2, 4); }
 
     void act() {
         switch (one(0, 9)) {
             case 0, 1 -> hide();
             case 2, 3 -> stand();
-            case 4, 5, 6 -> watches(one(0, 9) == 0 ? one(-1, 62) : one(0, 6));
+            case 4, 5, 6 -> watches(one(0, 9) == 0 ? some(-1, 62) : one(0, 6));
             case 7 -> undo();
-            case 8 -> hold(one(-1, 3));
-            default -> restore(one(-1, 3));
+            case 8 -> hold(some(-1, 3));
+            default -> restore(some(-1, 3));
         }
     }
 
@@ -106,7 +113,7 @@ final class Twins {
 
     void stand() {
         int top = o.text.men.size();
-        int[] w = {one(-1, top), one(-1, top), one(-1, top), one(-1, top)};
+        int[] w = {some(-1, top), some(-1, top), some(-1, top), some(-1, top)};
         due("stand(" + Arrays.toString(w) + ")", x.stand(w[0], w[1], w[2], w[3]), o.stand(w));
     }
 
@@ -119,16 +126,16 @@ final class Twins {
     void restore(int slot) { due("restore(" + slot + ")", bit(x.restore(slot)), bit(o.restore(slot))); }
 
     void ask() {
-        int man = man(), post = post(), what = one(-1, 4);
+        int man = man(), post = post(), what = some(-1, 4);
         boolean yes = random.nextBoolean();
-        int n = one(0, 9) == 0 ? one(-1, 202) : one(0, 30), s = one(0, 3) == 0 ? one(0, 21) : one(1, 4);
+        int n = one(0, 9) == 0 ? some(-1, 202) : one(0, 30), s = one(0, 3) == 0 ? some(0, 21) : one(1, 4);
         switch (one(0, 15)) {
             case 0 -> due("likely(" + man + ", " + post + ", " + yes + ")", x.likely(man, post, yes), o.likely(man, post, yes));
             case 1 -> due("orders(" + man + ")", x.orders(man), o.orders(man));
             case 2 -> due("mean(" + what + ", " + post + ", " + yes + ")", x.mean(what, post, yes), o.mean(what, post, yes));
             case 3 -> due("most(" + what + ", " + post + ", " + yes + ")", x.most(what, post, yes), o.most(what, post, yes));
             case 4 -> {
-                int d = one(-1, 10);
+                int d = some(-1, 10);
                 due("risk(" + d + ", " + post + ", " + yes + ")", x.risk(d, post, yes), o.risk(d, post, yes));
             }
             case 5 -> askSafest(yes);
@@ -136,7 +143,7 @@ final class Twins {
             case 7 -> due("handy(" + post + ")", x.handy(post), o.handy(post));
             case 8 -> due("better(" + yes + ")", x.better(yes), o.better(yes));
             case 9 -> {
-                int which = one(-1, 10);
+                int which = some(-1, 10);
                 due("then(" + n + ", " + which + ")", x.then(n, which), o.then(n, which));
             }
             case 10 -> due("often(" + man + ", " + what + ", " + n + ")", x.often(man, what, n), o.often(man, what, n));
@@ -154,13 +161,13 @@ final class Twins {
     private void askSafest(boolean yes) {
         // The oracle tries each pair of draws, which is slow for many MEN.
         boolean few = o.text.men.size() < 5 || one(0, 9) == 0;
-        int n = few ? one(0, 3) : one(0, 1), i = one(-1, 2);
+        int n = few ? some(0, 3) : one(0, 1), i = some(-1, 2);
         if (random.nextBoolean()) due("safest(" + n + ", " + i + ")", x.safest(n, i), o.safest(n, i));
         else due("safe(" + n + ", " + yes + ")", x.safe(n, yes), o.safe(n, yes));
     }
 
     void look() {
-        int man = man(), what = one(-1, 12);
+        int man = man(), what = some(-1, 12);
         boolean yes = random.nextBoolean();
         switch (one(0, 10)) {
             case 0 -> due("man(" + man + ", " + what + ")", x.man(man, what), o.man(man, what));
@@ -168,16 +175,16 @@ final class Twins {
             case 2 -> due("ship(" + what + ")", x.ship(what), o.ship(what));
             case 3 -> due("tell(" + man + ")", x.tell(man), o.tell(man));
             case 4 -> {
-                int k = one(-1, o.told.size() + 1);
+                int k = some(-1, o.told.size() + 1);
                 due("cheats(" + man + ", " + k + ", " + yes + ")", x.cheats(man, k, yes), o.cheats(man, k, yes));
             }
             case 5 -> {
-                int p = one(-1, 101);
+                int p = some(-1, 101);
                 due("surely(" + p + ")", x.surely(p), o.surely(p));
             }
             case 6, 7 -> log();
             case 8 -> {
-                int k = one(-1, o.logged.size() + 1), i = one(-2, 5);
+                int k = some(-1, o.logged.size() + 1), i = some(-2, 5);
                 due("began(" + k + ", " + i + ")", x.began(k, i), o.began(k, i));
             }
             case 9 -> {
@@ -188,13 +195,14 @@ final class Twins {
     }
 
     /** Mostly what could be so, or no league would be left. */
-    private void log() {
-        int n = one(0, 5) == 0 ? one(-1, 61) : one(0, 8), league = one(0, 8) == 0 ? one(-1, 1000) : one(0, 12);
-        if (one(0, 1) == 0 && n >= 0) {
+    void log() {
+        int n = one(0, 5) == 0 ? some(-1, 61) : one(0, 8), league = one(0, 8) == 0 ? one(-1, 1000) : one(0, 12);
+        if (one(0, 1) == 0 && n >= 0 && n <= 61) {
             Oracle.Voyage v = o.fresh(Math.min(o.text.goal, 5));
             o.run(v, n, o.text.seed, -1);
             league = v.league + one(-1, 1);
         }
-        due("log(" + n + ", " + league + ")", x.log(n, league), o.log(n, league));
+        int at = some(league, league);
+        due("log(" + n + ", " + at + ")", x.log(n, at), o.log(n, at));
     }
 }
