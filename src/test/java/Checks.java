@@ -1,5 +1,4 @@
 import java.util.ArrayList;
-import java.util.Arrays;
 
 /** What the tests share: texts are fed, answers compared, wrong ones told. */
 class Checks {
@@ -27,16 +26,20 @@ class Checks {
 
     static void no(String call, boolean got) { due(call, got ? 1 : 0, 0); }
 
-    static void feed(StrawWatch x, String text) {
-        byte[] bytes = new byte[(text.length() + 19) / 20 * 20];
-        Arrays.fill(bytes, (byte) ' ');
-        for (int i = 0; i < text.length(); i++) bytes[i] = (byte) text.charAt(i);
-        for (int i = 0; i < bytes.length; i += 20) {
-            int[] f = new int[5];
-            for (int j = 0; j < 20; j++) f[j / 4] = f[j / 4] << 8 | bytes[i + j] & 255;
-            x.feed(f[0], f[1], f[2], f[3], f[4]);
+    /** A text as feed() takes it: rows of five ints, the last one filled with blanks. */
+    static int[][] twenties(String text) {
+        int[][] rows = new int[(text.length() + 19) / 20][5];
+        for (int i = 0; i < 20 * rows.length; i++) {
+            int sign = i < text.length() ? text.charAt(i) & 255 : ' ';
+            rows[i / 20][i % 20 / 4] |= sign << 24 - 8 * (i % 4);
         }
-        x.back(bytes.length - text.length());
+        return rows;
+    }
+
+    static void feed(StrawWatch x, String text) {
+        int[][] rows = twenties(text);
+        for (int[] f : rows) x.feed(f[0], f[1], f[2], f[3], f[4]);
+        x.back(20 * rows.length - text.length());
     }
 
     static StrawWatch with(String text) {

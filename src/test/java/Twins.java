@@ -41,15 +41,9 @@ final class Twins {
     static int cost(String text) { return (text.length() + 19) / 20 + 3; }
 
     void give(String text) {
-        byte[] bytes = new byte[(text.length() + 19) / 20 * 20];
-        Arrays.fill(bytes, (byte) ' ');
-        for (int i = 0; i < text.length(); i++) bytes[i] = (byte) text.charAt(i);
-        for (int i = 0; i < bytes.length; i += 20) {
-            int[] f = new int[5];
-            for (int j = 0; j < 20; j++) f[j / 4] = f[j / 4] << 8 | bytes[i + j] & 255;
-            due("feed", x.feed(f[0], f[1], f[2], f[3], f[4]), o.feed(f[0], f[1], f[2], f[3], f[4]));
-        }
-        int back = some(bytes.length - text.length(), bytes.length - text.length());
+        int[][] rows = Checks.twenties(text);
+        for (int[] f : rows) due("feed", x.feed(f[0], f[1], f[2], f[3], f[4]), o.feed(f[0], f[1], f[2], f[3], f[4]));
+        int tooMany = 20 * rows.length - text.length(), back = some(tooMany, tooMany);
         if (one(0, 4) > 0) due("back(" + back + ")", x.back(back), o.back(back));
         due("read() of " + text, x.read(), o.read());
         due("place() of " + text, x.place(), o.place);
